@@ -15,6 +15,7 @@ final class Model {
     private static final String LINE = "(?:f[0-9]{1,2},[0-9]{1,2}(?:\\*[0-9])?(?:@[0-9])?|s[0-9]{1,2},[0-9]{1,2})";
     private static final Pattern ORCHARD = Pattern.compile(LINE + "(?:;" + LINE + ")*");
     private static final String ACT = "(?:m[0-9]|[ph][0-9]{1,2}|[dkaoz])";
+    private static final char MARK = (char) 300;
     private static final Pattern DAY = Pattern.compile(ACT + "(?:;" + ACT + ")*");
     private static final Pattern GRASS = Pattern.compile("[0-9]{1,2}(?:,[0-9]{1,2}){0,5},?");
 
@@ -129,6 +130,7 @@ final class Model {
     }
 
     private static boolean ruleWhole(String s) {
+        if (s.indexOf(MARK) >= 0) return false;
         int deep = 0, deepest = 0;
         for (char c : s.toCharArray()) {
             deep += c == '(' ? 1 : c == ')' ? -1 : 0;
@@ -142,7 +144,7 @@ final class Model {
             StringBuilder b = new StringBuilder();
             while (m.find()) {
                 if (!flatWhole(m.group(1))) return false;
-                m.appendReplacement(b, "T");
+                m.appendReplacement(b, "" + MARK);
             }
             m.appendTail(b);
             t = b.toString();
@@ -150,11 +152,11 @@ final class Model {
         return flatWhole(t);
     }
 
-    /** A T stands for a bracket that was whole. */
+    /** MARK, which no text can hold, stands for a bracket that was whole. */
     private static boolean flatWhole(String s) {
-        String thing = "-*(?:[0-9]{1,3}|[duywskoT])";
+        String thing = "-*(?:[0-9]{1,3}|[duywsko" + MARK + "])";
         String sum = thing + "(?:[-+*/]" + thing + ")*";
-        return s.matches(sum + "(?:[<>=]" + sum + ")?") && !s.matches(".*(T[0-9duywskoT]|[0-9]T).*");
+        return s.matches(sum + "(?:[<>=]" + sum + ")?");
     }
 
     private int value(String s, int[] names) {
