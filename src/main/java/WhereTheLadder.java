@@ -932,7 +932,7 @@ public final class WhereTheLadder {
         }
 
         int digitHere() {
-            int sign = here();
+            int sign = place < stop ? signs[place] : NONE;
             return sign >= '0' && sign <= '9' ? sign - '0' : NONE;
         }
 
@@ -1532,11 +1532,6 @@ public final class WhereTheLadder {
                     return b == 0 ? 0 : a / b;
             }
         }
-
-        int timeFor(int aside, int above) {
-            int value = length == 0 ? 2 + aside / 4 + above / 2 : reckon();
-            return Math.max(1, Math.min(99, value));
-        }
     }
 
     /** The tree as it is now, and the work that is done at it. */
@@ -1584,7 +1579,8 @@ public final class WhereTheLadder {
                 given[5] = inApron;
                 given[6] = hook;
             }
-            return pace.timeFor(aside, above);
+            int value = pace.length == 0 ? 2 + aside / 4 + above / 2 : pace.reckon();
+            return Math.max(1, Math.min(99, value));
         }
 
         int setLadder(int standing) {

@@ -3,7 +3,7 @@ import java.util.Random;
 
 /** Many runs of calls, drawn by a fixed seed, on the class and on the slow model beside it. */
 public final class ModelTest {
-    private static final int RUNS = 600;
+    private static final int RUNS = 2000;
     private static final long MISSING = Long.MIN_VALUE;
 
     private final Random random;

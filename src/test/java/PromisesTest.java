@@ -275,14 +275,14 @@ public final class PromisesTest {
         x.set(0, 30);
         due("none: 2+d/4+u/2", x.seconds(0, 0, 0), 2 + 12 / 4 + 10 / 2);
         String[] texts = {"d", "u", "y", "w", "s+1", "k+2", "o+3", "20-5-3", "20/3/2", "2+3*4", "(2+3)*4", "7/2*2", "-7/2+10", "5/0+1",
-            "1+(2<3)", "1+(3<2)", "1+(3>2)", "1+(2=2)", "2<3+4", "5+(1+1=2)", "--4", "---4+9", "2*-3+10", "-2*-3", "8--2", "0-5", "100",
+            "1+(2<3)", "1+(3<2)", "1+(3>2)", "1+(2=2)", "1+(2<2)", "1+(2>2)", "1+(2>3)", "1+(2=3)", "2<3+4", "5+(1+1=2)", "--4", "---4+9", "2*-3+10", "-2*-3", "8--2", "0-5", "100",
             "98+1", "99+1", "1", "0", "w*w*w*w*w*w*w*w*w*w*w*w", "999*999*999*999/999", "(1-2)*999*999*999*999/999+40"};
-        int[] want = {12, 10, 11, 7, 1, 2, 3, 12, 3, 14, 20, 6, 7, 1, 2, 1, 2, 2, 1, 6, 4, 5, 4, 6, 10, 1, 99, 99, 99, 1, 1, 99, 1, 1};
+        int[] want = {12, 10, 11, 7, 1, 2, 3, 12, 3, 14, 20, 6, 7, 1, 2, 1, 2, 2, 1, 1, 1, 1, 1, 6, 4, 5, 4, 6, 10, 1, 99, 99, 99, 1, 1, 99, 1, 1};
         int sevens = 1;
         for (int i = 0; i < 12; i++) sevens *= 7;
-        want[31] = Math.max(1, Math.min(99, sevens));
-        want[32] = Math.max(1, Math.min(99, 999 * 999 * 999 * 999 / 999));
-        want[33] = Math.max(1, Math.min(99, -1 * 999 * 999 * 999 * 999 / 999 + 40));
+        want[35] = Math.max(1, Math.min(99, sevens));
+        want[36] = Math.max(1, Math.min(99, 999 * 999 * 999 * 999 / 999));
+        want[37] = Math.max(1, Math.min(99, -1 * 999 * 999 * 999 * 999 / 999 + 40));
         for (int i = 0; i < texts.length; i++) due(texts[i], reckoned(texts[i]), want[i]);
         due("s of the second", rule("s+5"), 0);
         due("s", x.seconds(0, 1, 0), 6);
@@ -807,6 +807,9 @@ public final class PromisesTest {
         x.move(0);
         due("both ends as far", x.route(14), 27 + 60);
         dueRow("the least row", 1, 2, 3);
+        fresh(28, "s70,0;s60,0;s50,0;s40,0;s30,0;s20,0;s10,0;s0,0");
+        due("all eight from none", x.route(255), 72 + 70);
+        dueRow("all eight from none", 0, 1, 2, 3, 4, 5, 6, 7);
     }
 
     private static void works() {
@@ -1016,6 +1019,10 @@ public final class PromisesTest {
         x.move(0);
         due("none", x.gentle(), 0);
         dueRow("none");
+        fresh(38, "f1,8;f1,7;f1,6;f1,5;f1,4;f1,3;f1,2;f1,1;s1,9", "f9,8;f9,7;f9,6;f9,5;f9,4;f9,3;f9,2;f9,1");
+        x.move(0);
+        due("all sixteen", x.gentle(), 16);
+        dueRow("all sixteen", 7, 6, 5, 4, 3, 2, 1, 0, 15, 14, 13, 12, 11, 10, 9, 8);
     }
 
     private static void harms() {
