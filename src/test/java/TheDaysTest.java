@@ -159,6 +159,14 @@ public final class TheDaysTest extends Sentences {
         x.move(0);
         due("one above another above another", x.gentle(), 5);
         dueRow("from below", 3, 1, 4, 2, 0);
+        fresh("f10,9;f10,5;f10,1@1;f11,7;s10,5");
+        x.move(0);
+        due("one BELOW all that is not RIPE", x.gentle(), 0);
+        x.sleep();
+        x.move(0);
+        x.pick(2, 0);
+        due("PICKED, it is BELOW none", x.gentle(), 3);
+        dueRow("PICKED, it is BELOW none", 1, 3, 0);
         says(38, "; the ROW: an order: the least row of all of them.", "f1,8;f1,7;f1,6;f1,5;f1,4;f1,3;f1,2;f1,1;s1,9", "f9,8;f9,7;f9,6;f9,5;f9,4;f9,3;f9,2;f9,1");
         x.move(0);
         due("all 16", x.gentle(), 16);
@@ -203,6 +211,10 @@ public final class TheDaysTest extends Sentences {
         x.foot(1);
         due("leaning", x.harm(), 2 | 8 | 16);
         due("nothing changed", x.count(9), 0);
+        fresh("f10,9;f10,5;f10,1;s10,5");
+        x.move(0);
+        x.pick(1, 0);
+        due("one that HANGS no more is BELOW none", x.harm(), 4);
         says(39, "; the ROW: by how much WORTH is less so.", "f10,9*9;f10,5*5;f11,4*8@1;f9,1*1;f9,0*0;s10,5");
         x.move(0);
         due("four", x.harm(), 2 | 4 | 8 | 16);

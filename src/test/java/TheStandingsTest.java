@@ -539,6 +539,8 @@ public final class TheStandingsTest extends Sentences {
         due("not by 0", x.helps(), 0);
         fresh("f18,5;f41,5;f71,5;s10,5;s30,5;s60,5");
         due("two more", x.helps(), -2);
+        fresh("f10,5;f20,5;f32,5;s21,5;s10,5;s32,5");
+        due("the last is needed, if nobody is", x.helps(), 2);
         fresh();
         due("none", x.helps(), 0);
         dueRow("none", 0, 0);
@@ -623,6 +625,12 @@ public final class TheStandingsTest extends Sentences {
         due("46", x.sweep(46), 8);
         due("47", x.sweep(47), 12);
         due("9999", x.sweep(9999), 12);
+        x.move(0);
+        x.pick(1, 0);
+        due("what HANGS: one of them BRUISED", x.sweep(9999), 1 + 4);
+        x.sleep();
+        x.foot(1);
+        due("RIPE", x.sweep(9999), 1 + 2 + 4);
         says(36, "; the ROW: they (bits; of as good ones with the least work(), then the least bits), that work().", TREE);
         x.sweep(14);
         dueRow("none", 0, 0);

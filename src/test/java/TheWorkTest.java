@@ -224,6 +224,10 @@ public final class TheWorkTest extends Sentences {
         x.move(0);
         due("one", x.shake(), 1);
         due("none that is above it", x.count(9), 2 | 4);
+        fresh("f30,9@1;f30,1@1;f10,5;f30,5;f30,4;s10,5");
+        x.move(0);
+        due("one", x.shake(), 1);
+        due("none BELOW such as do not fall", x.count(9), 4);
         fresh("f10,9;f10,8;f10,5@1;s10,5");
         x.move(0);
         x.pick(1, 0);
