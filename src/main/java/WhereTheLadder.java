@@ -1499,7 +1499,7 @@ public final class WhereTheLadder {
                 int code = program[i];
                 if (code < OPERATOR) {
                     if (top < stack.length) {
-                        stack[top] = code < LETTER ? code : given[code - LETTER];
+                        stack[top] = meant(code);
                         top++;
                     }
                 } else if (code == OPERATOR + NEGATE) {
@@ -1512,6 +1512,12 @@ public final class WhereTheLadder {
                 }
             }
             return top > 0 ? stack[top - 1] : 0;
+        }
+
+        /** A NUMBER means itself, as it is less than any letter's code. */
+        int meant(int code) {
+            int letter = code - LETTER;
+            return letter >= 0 && letter < given.length ? given[letter] : code;
         }
 
         static int join(int sign, int a, int b) {
