@@ -1132,11 +1132,11 @@ public final class WhereTheLadder {
         }
 
         int aside(int f, int s) {
-            return Math.abs(x[f] - foot[s]);
+            return x[f] > foot[s] ? x[f] - foot[s] : foot[s] - x[f];
         }
 
         int above(int f, int s) {
-            return Math.max(0, height[f] - fork[s]);
+            return height[f] > fork[s] ? height[f] - fork[s] : 0;
         }
 
         boolean isWithin(int f, int s, int reach) {

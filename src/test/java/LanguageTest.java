@@ -1,3 +1,5 @@
+import java.io.PrintWriter;
+import java.io.StringWriter;
 import java.lang.reflect.Constructor;
 import java.lang.reflect.Field;
 import java.lang.reflect.Method;
@@ -7,10 +9,13 @@ import java.nio.file.Path;
 import java.util.ArrayList;
 import java.util.Arrays;
 import java.util.List;
+import java.util.Map;
 import java.util.Set;
+import java.util.TreeMap;
 import java.util.TreeSet;
 import java.util.regex.Matcher;
 import java.util.regex.Pattern;
+import java.util.spi.ToolProvider;
 
 /** The face as the document has it, and what of LANGUAGE.md can be seen from outside or from the source's lines. */
 public final class LanguageTest {
@@ -42,6 +47,7 @@ public final class LanguageTest {
         face();
         inside();
         source(Files.readAllLines(Path.of(SOURCE)));
+        depth();
         System.out.println(wrong == 0 ? "the face and the language are as they must be" : wrong + " are not as they must be");
         if (wrong != 0) System.exit(1);
     }
@@ -79,6 +85,9 @@ public final class LanguageTest {
             Class<?>[] thrown = c.getMethod(name, int.class, int.class).getExceptionTypes();
             need(thrown.length == 1 && thrown[0].getSimpleName().equals("NoSuchElementException"), name + " throws");
         }
+        Class<?>[] thrown = c.getMethod("row", int.class).getExceptionTypes();
+        need(thrown.length == 1 && thrown[0].getSimpleName().equals("NoSuchElementException"), "row throws");
+        need(c.getField("NONE").getInt(null) == -1 && Modifier.isFinal(c.getField("NONE").getModifiers()), "NONE");
     }
 
     private static void inside() {
@@ -123,5 +132,60 @@ public final class LanguageTest {
                 methodFrom = -1;
             }
         }
+    }
+
+    // ---- how deep calls go, the library's own counted
+
+    private static final Pattern METHOD = Pattern.compile("^ {2}(?:\\S.*?)?([\\w$]+)\\(([^)]*)\\).*;$");
+    private static final Pattern CALL = Pattern.compile("invoke.*// (?:Interface)?Method ([^:]+):\\(([^)]*)\\)");
+    private static final Pattern TYPE = Pattern.compile("\\[*(?:L[^;]+;|[A-Z])");
+
+    private static void depth() throws Exception {
+        Path classes = Path.of(WhereTheLadder.class.getProtectionDomain().getCodeSource().getLocation().toURI());
+        Map<String, Set<String>> calls = new TreeMap<>();
+        addCalls(calls, classes, WhereTheLadder.class.getName());
+        for (Class<?> c : WhereTheLadder.class.getDeclaredClasses()) addCalls(calls, classes, c.getName());
+        need(calls.size() > 51 + 1, "methods found: " + calls.size());
+        for (String method : calls.keySet()) {
+            List<String> chain = longest(calls, method, new ArrayList<>());
+            need(chain.size() <= 8, "more than eight deep: " + chain);
+        }
+    }
+
+    private static void addCalls(Map<String, Set<String>> calls, Path classes, String name) {
+        StringWriter told = new StringWriter();
+        ToolProvider.findFirst("javap").orElseThrow().run(new PrintWriter(told), new PrintWriter(told),
+            "-p", "-c", classes.resolve(name + ".class").toString());
+        String method = "";
+        for (String line : told.toString().split("\\R")) {
+            Matcher head = METHOD.matcher(line);
+            Matcher call = CALL.matcher(line);
+            if (head.matches()) {
+                boolean isMaking = head.group(1).equals(name);
+                int many = head.group(2).isEmpty() ? 0 : head.group(2).split(",").length;
+                method = name + "." + (isMaking ? "<init>" : head.group(1)) + "/" + many;
+                calls.put(method, new TreeSet<>());
+            } else if (call.find()) {
+                String called = call.group(1).replace("\"", "");
+                long many = TYPE.matcher(call.group(2)).results().count();
+                calls.get(method).add((called.contains(".") ? "" : name + ".") + called + "/" + many);
+            }
+        }
+    }
+
+    /** The longest chain of calls from a method on; a method that calls itself is told as a fault. */
+    private static List<String> longest(Map<String, Set<String>> calls, String method, List<String> open) {
+        List<String> best = new ArrayList<>();
+        need(!open.contains(method), "calls itself: " + method);
+        if (open.contains(method)) return best;
+        open.add(method);
+        for (String called : calls.getOrDefault(method, Set.of())) {
+            List<String> chain = longest(calls, called, open);
+            if (chain.size() > best.size()) best = chain;
+        }
+        open.remove(open.size() - 1);
+        best = new ArrayList<>(best);
+        best.add(0, method);
+        return best;
     }
 }
